@@ -22,10 +22,10 @@ public final class EveningFalls {
     private final Strip[] kept = strips(MOST_KEPT, MOST_DEEDS);
     private final Strip deeds = new Strip(MOST_DEEDS);
     private final Course now = new Course();
-    private final Search search = new Search();
     private final int[] answered = new int[SIZE + 1];
     private Court court = new Court();
     private Court spare = new Court();
+    private final Search search = new Search(court);
     private int toldAsked = 0;
     private long toldUpper = 0;
     private long toldLower = 1;
@@ -137,7 +137,7 @@ public final class EveningFalls {
         if (!court.isOf(w, kind)) return found(UNLIKE);
         switch (kind) {
             case RIOT: return court.howManyAre(RIOT) - 1;
-            case MIMED: return court.restOf(w) + 1;
+            case MIMED: return court.pause[w] + 1;
             case REGENT: return now.ahead == REIGNS ? 0 : 1;
             case PROXY: return Integer.bitCount(court.named[w]);
             default: return (5 - now.day % 5) % 5;
@@ -156,7 +156,7 @@ public final class EveningFalls {
         if ((openNow() >> w & 1) == 0) return STATE;
         if (deeds.size >= MOST_DEEDS) return FULL;
         doDeed(w);
-        return court.troubleOf(w);
+        return court.trouble[w];
     }
 
     public int night() {
@@ -299,7 +299,7 @@ public final class EveningFalls {
         if ((set & court.awayOn(day)) != 0) return 0;
         int bits = 0;
         for (int w = 0; w < court.ways; w++) {
-            if (court.needsOf(w) == set && Court.fitsDay(court.kind[w], day)) bits |= 1 << w;
+            if (court.needs[w] == set && Court.fitsDay(court.kind[w], day)) bits |= 1 << w;
         }
         return bits;
     }
@@ -467,8 +467,8 @@ public final class EveningFalls {
     private int factOf(int w, int what) {
         switch (what) {
             case 0: return court.kind[w];
-            case 1: return court.troubleOf(w);
-            case 2: return court.needsOf(w);
+            case 1: return court.trouble[w];
+            case 2: return court.needs[w];
             case 3: return now.last[w];
             case 4: return now.times[w];
             default: return openNow() >> w & 1;
@@ -525,7 +525,7 @@ public final class EveningFalls {
 
     private int leastTrouble(int open) {
         int w = now.choose(court, 1, open);
-        return w < 0 ? REIGN_TROUBLE : court.troubleOf(w);
+        return court.hasWay(w) ? court.trouble[w] : REIGN_TROUBLE;
     }
 
     /** A ROW, a TEXT, or a row of DEEDS: its places are made once and used again; a size of -1 is: missing. */
@@ -576,13 +576,16 @@ public final class EveningFalls {
         }
     }
 
-    /** What a TEXT tells of a COURT; what is done does not change it. */
+    /** What a TEXT tells of a COURT, and what follows by the KINDS of its WAYS; no deed changes it. */
     private static final class Court {
         private final int[] round = new int[MOST_PEOPLE];
         private final int[] turn = new int[MOST_PEOPLE];
         private final int[] kind = new int[MOST_WAYS];
         private final int[] told = new int[MOST_WAYS];
         private final int[] named = new int[MOST_WAYS];
+        private final int[] trouble = new int[MOST_WAYS];
+        private final int[] needs = new int[MOST_WAYS];
+        private final int[] pause = new int[MOST_WAYS];
         private int rest = 0;
         private int people = 0;
         private int ways = 0;
@@ -605,6 +608,9 @@ public final class EveningFalls {
             kind[ways] = itsKind;
             told[ways] = itsTrouble;
             named[ways] = itsNeeds;
+            trouble[ways] = troubleAs(itsKind, itsTrouble);
+            needs[ways] = needsAs(itsKind, itsNeeds);
+            pause[ways] = kindIs(itsKind, MIMED) ? rest / 2 : rest;
             ways++;
         }
 
@@ -626,18 +632,6 @@ public final class EveningFalls {
 
         boolean isOf(int w, int base) {
             return kindIs(kind[w], base);
-        }
-
-        int troubleOf(int w) {
-            return troubleAs(kind[w], told[w]);
-        }
-
-        int needsOf(int w) {
-            return needsAs(kind[w], named[w]);
-        }
-
-        int restOf(int w) {
-            return isOf(w, MIMED) ? rest / 2 : rest;
         }
 
         int howManyAre(int base) {
@@ -765,13 +759,13 @@ public final class EveningFalls {
         int openWays(Court court, int gone) {
             int bits = 0;
             for (int w = 0; w < court.ways; w++) {
-                if ((court.needsOf(w) & gone) == 0 && isRipe(court, w)) bits |= 1 << w;
+                if ((court.needs[w] & gone) == 0 && isRipe(court, w)) bits |= 1 << w;
             }
             return bits;
         }
 
         private boolean isRipe(Court court, int w) {
-            if (last[w] != NONE && day - last[w] <= court.restOf(w)) return false;
+            if (last[w] != NONE && day - last[w] <= court.pause[w]) return false;
             if (!Court.fitsDay(court.kind[w], day)) return false;
             if (court.kind[w] == REGENT) return ahead != REIGNS;
             return !court.isOf(w, RIOT) || !court.hasWay(ahead) || !court.isOf(ahead, RIOT);
@@ -782,7 +776,7 @@ public final class EveningFalls {
             if (court.hasWay(deed)) {
                 last[deed] = day;
                 times[deed]++;
-                trouble += court.troubleOf(deed);
+                trouble += court.trouble[deed];
                 ahead = deed;
             } else {
                 nights++;
@@ -799,7 +793,7 @@ public final class EveningFalls {
             if (court.hasWay(deed)) {
                 last[deed] = lastBefore;
                 times[deed]--;
-                trouble -= court.troubleOf(deed);
+                trouble -= court.trouble[deed];
             } else {
                 nights--;
                 trouble -= REIGN_TROUBLE;
@@ -816,7 +810,7 @@ public final class EveningFalls {
         }
 
         private boolean isBetter(Court court, int rule, int w, int than) {
-            if (rule == 1) return court.troubleOf(w) < court.troubleOf(than);
+            if (rule == 1) return court.trouble[w] < court.trouble[than];
             // NONE is below every DAY, so one that never was done is ahead of all.
             return rule == 2 && last[w] < last[than];
         }
@@ -827,10 +821,14 @@ public final class EveningFalls {
         private final Course aside = new Course();
         private final int[] path = new int[PLAN_DAYS];
         private final int[] found = new int[PLAN_DAYS];
-        private Court court = null;
+        private Court court;
         private int days = 0;
         private int cheapest = 0;
         private int best = NONE;
+
+        Search(Court first) {
+            court = first;
+        }
 
         void begin(Court with, Course from, int n) {
             court = with;
@@ -838,11 +836,11 @@ public final class EveningFalls {
             days = Math.max(0, Math.min(n, PLAN_DAYS));
             best = NONE;
             cheapest = REIGN_TROUBLE;
-            for (int w = 0; w < with.ways; w++) cheapest = Math.min(cheapest, with.troubleOf(w));
+            for (int w = 0; w < with.ways; w++) cheapest = Math.min(cheapest, with.trouble[w]);
         }
 
         int open() {
-            return court == null ? 0 : aside.openWays(court, court.awayOn(aside.day));
+            return aside.openWays(court, court.awayOn(aside.day));
         }
 
         private void keepPath(int value) {
@@ -851,7 +849,7 @@ public final class EveningFalls {
         }
 
         private static long countPlans(Search s, int left) {
-            if (left <= 0 || s.court == null) return 1;
+            if (left <= 0) return 1;
             int open = s.open();
             if (left == 1) return Integer.bitCount(open);
             long many = 0;
@@ -870,7 +868,7 @@ public final class EveningFalls {
         private static void seekLeast(Search s, int depth) {
             int left = s.days - depth;
             if (s.best != NONE && s.aside.trouble + left * s.cheapest >= s.best) return;
-            if (left <= 0 || depth >= PLAN_DAYS || s.court == null) {
+            if (left <= 0 || depth >= PLAN_DAYS) {
                 s.keepPath(s.aside.trouble);
                 return;
             }
@@ -888,7 +886,7 @@ public final class EveningFalls {
 
         private static void seekLongest(Search s, int depth) {
             if (depth > s.best) s.keepPath(depth);
-            if (depth >= PLAN_DAYS || s.court == null) return;
+            if (depth >= PLAN_DAYS) return;
             int open = s.open();
             for (int w = 0; w < s.court.ways && s.best < PLAN_DAYS; w++) {
                 if ((open >> w & 1) == 0) continue;
@@ -904,7 +902,7 @@ public final class EveningFalls {
         private static void seekPeople(Search s, int depth, int set) {
             // More WAYS never need fewer PEOPLE: what is no better now will not be better.
             if (s.best != NONE && rank(set) >= rank(s.best)) return;
-            if (depth >= s.days || s.court == null) {
+            if (depth >= s.days) {
                 s.best = set;
                 return;
             }
@@ -914,7 +912,7 @@ public final class EveningFalls {
                 int last = s.aside.last[w];
                 int ahead = s.aside.ahead;
                 s.aside.goOn(s.court, w);
-                seekPeople(s, depth + 1, set | s.court.needsOf(w));
+                seekPeople(s, depth + 1, set | s.court.needs[w]);
                 s.aside.goBack(s.court, w, last, ahead);
             }
         }
@@ -926,7 +924,7 @@ public final class EveningFalls {
 
         /** TROUBLE of the DAYS left, if now one of the WAYS left (bits) is struck out. */
         private static int whenStriking(Search s, int left, int n) {
-            if (n <= 0 || s.court == null) return 0;
+            if (n <= 0) return 0;
             if (left == 0) return whenDoing(s, 0, n);
             int most = 0;
             for (int w = 0; w < s.court.ways; w++) {
@@ -945,7 +943,7 @@ public final class EveningFalls {
                 if ((open >> w & 1) == 0) continue;
                 int last = s.aside.last[w];
                 s.aside.goOn(s.court, w);
-                least = Math.min(least, s.court.troubleOf(w) + whenStriking(s, left, n - 1));
+                least = Math.min(least, s.court.trouble[w] + whenStriking(s, left, n - 1));
                 s.aside.goBack(s.court, w, last, ahead);
             }
             return least;
@@ -954,8 +952,8 @@ public final class EveningFalls {
         /** The path is the row of WAYS that a number tells in base "WAYS". */
         void spell(int code) {
             int left = code;
+            if (court.ways == 0) return;
             for (int i = days - 1; i >= 0; i--) {
-                if (court == null || court.ways == 0) return;
                 path[i] = left % court.ways;
                 left /= court.ways;
             }
@@ -969,11 +967,11 @@ public final class EveningFalls {
         }
 
         private boolean goesRoundFrom(int i) {
-            if (court == null || days == 0) return false;
+            if (days == 0) return false;
             int w = path[i];
             if (court.kind[w] == LANDSLIDE) return false;
             if (court.isOf(w, RIOT) && court.isOf(path[(i + 1) % days], RIOT)) return false;
-            for (int d = 1; d <= court.restOf(w); d++) {
+            for (int d = 1; d <= court.pause[w]; d++) {
                 if (path[(i + d) % days] == w) return false;
             }
             return true;
