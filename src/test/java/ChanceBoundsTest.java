@@ -1,8 +1,5 @@
 /** Boundary cases of promises 28 to 33: a lost DAY, KINDS, one who strikes out, chances, LOTS. */
-public final class ChanceBoundsTest {
-    private static final int BAD = Twins.BAD, FULL = Twins.FULL, STATE = Twins.STATE, NONE = Twins.NONE;
-    private static final int LOW = Twins.LOW, HIGH = Twins.HIGH;
-
+public final class ChanceBoundsTest extends Bounds {
     public static void main(String[] args) {
         promise28Days();
         promise28Sets();
@@ -24,27 +21,6 @@ public final class ChanceBoundsTest {
         Check.end();
     }
 
-    private static void due(String what, long got, long want) {
-        Check.due(what, got, want);
-    }
-
-    private static void asks(EveningFalls x, String what, int got, int want) {
-        due(what, got, 1);
-        due(what + ", asked()", x.asked(), want);
-    }
-
-    private static void tells(EveningFalls x, String what, int got, long upper, long lower) {
-        due(what, got, 1);
-        due(what + ", upper()", x.upper(), upper);
-        due(what + ", lower()", x.lower(), lower);
-    }
-
-    private static void bad(String what, Twins.Call call) {
-        Twins.refused(what + ", busy", Twins::busy, call, BAD);
-        Twins.refused(what + ", full", Twins::full, call, BAD);
-        Twins.refused(what + ", BAD ahead of STATE", Twins::bare, call, BAD);
-    }
-
     private static void promise28Days() {
         EveningFalls x = Check.court("k6o72w01r01m01g01p01l01l00", 7);
         due("28: DAY 0", x.lost(0, 1), 1 + 2 + 4 + 8 + 32);
@@ -58,7 +34,7 @@ public final class ChanceBoundsTest {
         due("28: DAY 30 is one of those AWAY", x.lost(30, 1), 0);
         x.fall(0);
         due("28: what was done is no matter", x.lost(0, 1), 1 + 2 + 4 + 8 + 32);
-        Twins.refused("28: aside", Twins::busy, y -> y.lost(0, 4), 32);
+        refused("28: aside", Bounds::busy, y -> y.lost(0, 4), 32);
     }
 
     private static void promise28Sets() {
@@ -69,9 +45,9 @@ public final class ChanceBoundsTest {
             EveningFalls x = Check.court(words, 2);
             due("28: the least set, " + words, x.lost(1, 0), many == 0 ? 3 : 2);
             due("28: the greatest set, " + words, x.lost(1, all), many == 0 ? 3 : 1);
-            Twins.Made made = () -> Check.court(words, 2);
-            Twins.refused("28: the next one, " + words, made, y -> y.lost(1, all + 1), BAD);
-            Twins.refused("28: below, " + words, made, y -> y.lost(1, -1), BAD);
+            Made made = () -> Check.court(words, 2);
+            refused("28: the next one, " + words, made, y -> y.lost(1, all + 1), BAD);
+            refused("28: below, " + words, made, y -> y.lost(1, -1), BAD);
             people += "o70";
         }
         EveningFalls x = Check.court("k0o70o70o70w03w01w02w06", 4);
@@ -88,9 +64,9 @@ public final class ChanceBoundsTest {
     private static void promise28Refused() {
         for (int day : new int[] {-1, 1000, LOW, HIGH}) bad("28: lost(" + day + ", 0)", y -> y.lost(day, 0));
         for (int set : new int[] {-1, 8, LOW, HIGH}) bad("28: lost(0, " + set + ")", y -> y.lost(0, set));
-        Twins.refused("28: no WAYS", Twins::bare, y -> y.lost(0, 0), STATE);
-        Twins.refused("28: no WAYS", Twins::bare, y -> y.lost(999, 0), STATE);
-        Twins.refused("28: no PEOPLE, no such set", Twins::bare, y -> y.lost(0, 1), BAD);
+        refused("28: no WAYS", Bounds::bare, y -> y.lost(0, 0), STATE);
+        refused("28: no WAYS", Bounds::bare, y -> y.lost(999, 0), STATE);
+        refused("28: no PEOPLE, no such set", Bounds::bare, y -> y.lost(0, 1), BAD);
     }
 
     private static void promise29Kinds() {
@@ -130,7 +106,7 @@ public final class ChanceBoundsTest {
         z.night();
         z.fall(0);
         due("29: done", z.kinds(0, 1, 3, 1), 11);
-        Twins.refused("29: aside", Twins::busy, v -> v.kinds(0, 0, 4, 1), 11);
+        refused("29: aside", Bounds::busy, v -> v.kinds(0, 0, 4, 1), 11);
     }
 
     private static void promise29Refused() {
@@ -138,8 +114,8 @@ public final class ChanceBoundsTest {
         for (int day : new int[] {-1, 1000, LOW, HIGH}) bad("29: DAY " + day, y -> y.kinds(0, day, 0, 0));
         for (int t : new int[] {-1, 19, LOW, HIGH}) bad("29: TROUBLE " + t, y -> y.kinds(0, 0, t, 0));
         for (int set : new int[] {-1, 8, LOW, HIGH}) bad("29: set " + set, y -> y.kinds(0, 0, 0, set));
-        Twins.refused("29: of no WAYS", Twins::bare, y -> y.kinds(0, 0, 0, 0), BAD);
-        Twins.refused("29: the next WAY", Twins::full, y -> y.kinds(3, 0, 0, 0), BAD);
+        refused("29: of no WAYS", Bounds::bare, y -> y.kinds(0, 0, 0, 0), BAD);
+        refused("29: the next WAY", Bounds::full, y -> y.kinds(3, 0, 0, 0), BAD);
     }
 
     private static void strikesAre(String words, int ways, int... troubles) {
@@ -170,17 +146,17 @@ public final class ChanceBoundsTest {
         x.fall(0);
         due("30: one rests, one is struck out", x.strikes(1), 9);
         due("30: aside", x.count(3), 1);
-        Twins.refused("30: aside", Twins::busy, y -> y.strikes(0), 0);
-        Twins.refused("30: aside", Twins::busy, y -> y.strikes(1), 20);
-        EveningFalls full = Twins.full();
+        refused("30: aside", Bounds::busy, y -> y.strikes(0), 0);
+        refused("30: aside", Bounds::busy, y -> y.strikes(1), 20);
+        EveningFalls full = full();
         due("30: also when FULL", full.strikes(1), 3);
         due("30: aside", full.count(3), 40);
     }
 
     private static void promise30Refused() {
         for (int n : new int[] {-1, 4, LOW, HIGH}) bad("30: strikes(" + n + ")", y -> y.strikes(n));
-        Twins.refused("30: no WAYS", Twins::bare, y -> y.strikes(0), STATE);
-        Twins.refused("30: no WAYS", Twins::bare, y -> y.strikes(3), STATE);
+        refused("30: no WAYS", Bounds::bare, y -> y.strikes(0), STATE);
+        refused("30: no WAYS", Bounds::bare, y -> y.strikes(3), STATE);
     }
 
     private static void promise31Chances() {
@@ -223,7 +199,7 @@ public final class ChanceBoundsTest {
         tells(y, "31: it rests, and the other one is AWAY", y.odds(0), 0, 1);
         y.night();
         tells(y, "31: it rests, and the other one may come", y.odds(1), 11, 12);
-        EveningFalls full = Twins.full();
+        EveningFalls full = full();
         tells(full, "31: also when FULL", full.odds(12), 1, 1);
     }
 
@@ -256,10 +232,10 @@ public final class ChanceBoundsTest {
             bad("32: mid(" + p + ")", y -> y.mid(p));
         }
         for (int p : new int[] {0, 12}) {
-            Twins.refused("31: no WAYS", Twins::bare, y -> y.odds(p), STATE);
-            Twins.refused("32: no WAYS", Twins::bare, y -> y.mid(p), STATE);
+            refused("31: no WAYS", Bounds::bare, y -> y.odds(p), STATE);
+            refused("32: no WAYS", Bounds::bare, y -> y.mid(p), STATE);
         }
-        EveningFalls x = Twins.busy();
+        EveningFalls x = busy();
         long before = x.digest();
         x.odds(1);
         x.mid(1);
@@ -312,7 +288,7 @@ public final class ChanceBoundsTest {
     private static void promise33HowMany() {
         for (int before : new int[] {20, 21, 39, 40}) {
             int room = 40 - before;
-            Twins.Made made = () -> {
+            Made made = () -> {
                 EveningFalls x = Check.court("k0w10", 1);
                 for (int i = 0; i < before; i++) x.fall(0);
                 return x;
@@ -320,8 +296,8 @@ public final class ChanceBoundsTest {
             EveningFalls x = made.get();
             if (room > 0) due("33: as many as there is room for", x.lots(room, 1), 0);
             due("37: DEEDS", x.count(3), 40);
-            if (room < 20) Twins.refused("33: one more", made, y -> y.lots(room + 1, 1), FULL);
-            Twins.refused("33: BAD ahead of FULL", made, y -> y.lots(21, 1), BAD);
+            if (room < 20) refused("33: one more", made, y -> y.lots(room + 1, 1), FULL);
+            refused("33: BAD ahead of FULL", made, y -> y.lots(21, 1), BAD);
         }
         EveningFalls x = Check.court("k0w10", 1);
         due("33: 1", x.lots(1, 1), 0);
@@ -337,9 +313,9 @@ public final class ChanceBoundsTest {
             bad("33: lots(1, " + seed + ")", y -> y.lots(1, seed));
             bad("33: lots(20, " + seed + ")", y -> y.lots(20, seed));
         }
-        Twins.refused("33: no WAYS", Twins::bare, y -> y.lots(1, 1), STATE);
-        Twins.refused("33: no WAYS", Twins::bare, y -> y.lots(20, 2147483646), STATE);
-        Twins.refused("33: FULL", Twins::full, y -> y.lots(1, 1), FULL);
-        Twins.refused("33: FULL", Twins::full, y -> y.lots(20, 2147483646), FULL);
+        refused("33: no WAYS", Bounds::bare, y -> y.lots(1, 1), STATE);
+        refused("33: no WAYS", Bounds::bare, y -> y.lots(20, 2147483646), STATE);
+        refused("33: FULL", Bounds::full, y -> y.lots(1, 1), FULL);
+        refused("33: FULL", Bounds::full, y -> y.lots(20, 2147483646), FULL);
     }
 }

@@ -1,9 +1,5 @@
 /** Boundary cases of promises 10 to 14: FAULTS, COURTS, what WAYS tell, who is AWAY. */
-public final class CourtBoundsTest {
-    private static final int BAD = Twins.BAD, FINDING = Twins.FINDING, STATE = Twins.STATE, NONE = Twins.NONE;
-    private static final int NOTHING = Twins.NOTHING, UNLIKE = Twins.UNLIKE;
-    private static final int LOW = Twins.LOW, HIGH = Twins.HIGH;
-    private static final int[] NO_TEXT = {-1, 4, LOW, HIGH};
+public final class CourtBoundsTest extends Bounds {
     private static final String LETTERS = "wrmgpl";
 
     public static void main(String[] args) {
@@ -27,15 +23,6 @@ public final class CourtBoundsTest {
         promise14Days();
         promise14Refused();
         Check.end();
-    }
-
-    private static void due(String what, long got, long want) {
-        Check.due(what, got, want);
-    }
-
-    private static void asks(EveningFalls x, String what, int got, int want) {
-        due(what, got, 1);
-        due(what + ", asked()", x.asked(), want);
     }
 
     /** A FAULT, and that court() refuses just then. */
@@ -187,18 +174,18 @@ public final class CourtBoundsTest {
 
     private static void promise10Refused() {
         for (int t : NO_TEXT) {
-            Twins.refused("10: fault(" + t + ")", Twins::busy, y -> y.fault(t), BAD);
-            Twins.refused("10: fault(" + t + "), bare", Twins::bare, y -> y.fault(t), BAD);
+            refused("10: fault(" + t + ")", Bounds::busy, y -> y.fault(t), BAD);
+            refused("10: fault(" + t + "), bare", Bounds::bare, y -> y.fault(t), BAD);
         }
-        Twins.found("10: fault(1)", Twins::busy, y -> y.fault(1), NOTHING);
+        found("10: fault(1)", Bounds::busy, y -> y.fault(1), NOTHING);
         // What is told is no refusal, and changes nothing either.
-        Twins.refused("10: fault(0)", Twins::busy, y -> y.fault(0), NONE);
-        Twins.refused("10: fault(2)", Twins::busy, y -> y.fault(2), 0);
-        Twins.refused("10: fault(3)", Twins::busy, y -> y.fault(3), 59);
+        refused("10: fault(0)", Bounds::busy, y -> y.fault(0), NONE);
+        refused("10: fault(2)", Bounds::busy, y -> y.fault(2), 0);
+        refused("10: fault(3)", Bounds::busy, y -> y.fault(3), 59);
     }
 
     private static void promise11Courts() {
-        EveningFalls x = Twins.busy();
+        EveningFalls x = busy();
         x.text(1, 5);
         String least = "k0w00";
         for (int i = 0; i < 5; i++) x.put(1, i, least.charAt(i));
@@ -220,7 +207,7 @@ public final class CourtBoundsTest {
     }
 
     private static void promise11Anew() {
-        EveningFalls x = Twins.busy();
+        EveningFalls x = busy();
         due("11: anew", x.court(0), 7);
         due("11: DAY 0", x.count(2), 0);
         due("11: no DEEDS", x.count(3), 0);
@@ -251,25 +238,25 @@ public final class CourtBoundsTest {
 
     private static void promise11Refused() {
         for (int t : NO_TEXT) {
-            Twins.refused("11: court(" + t + ")", Twins::busy, y -> y.court(t), BAD);
-            Twins.refused("11: court(" + t + "), bare", Twins::bare, y -> y.court(t), BAD);
+            refused("11: court(" + t + ")", Bounds::busy, y -> y.court(t), BAD);
+            refused("11: court(" + t + "), bare", Bounds::bare, y -> y.court(t), BAD);
         }
-        Twins.found("11: NOTHING", Twins::busy, y -> y.court(1), NOTHING);
-        Twins.refused("11: STATE, empty", Twins::busy, y -> y.court(2), STATE);
-        Twins.refused("11: STATE", Twins::busy, y -> y.court(3), STATE);
-        Twins.refused("11: STATE, full", CourtBoundsTest::fullAndSpoilt, y -> y.court(0), STATE);
+        found("11: NOTHING", Bounds::busy, y -> y.court(1), NOTHING);
+        refused("11: STATE, empty", Bounds::busy, y -> y.court(2), STATE);
+        refused("11: STATE", Bounds::busy, y -> y.court(3), STATE);
+        refused("11: STATE, full", CourtBoundsTest::fullAndSpoilt, y -> y.court(0), STATE);
         // All of the TEXT was read but its last byte.
-        Twins.refused("11: STATE at the end", CourtBoundsTest::spoiltAtTheEnd, y -> y.court(0), STATE);
+        refused("11: STATE at the end", CourtBoundsTest::spoiltAtTheEnd, y -> y.court(0), STATE);
     }
 
     private static EveningFalls fullAndSpoilt() {
-        EveningFalls x = Twins.full();
+        EveningFalls x = full();
         x.put(0, 13, '2');
         return x;
     }
 
     private static EveningFalls spoiltAtTheEnd() {
-        EveningFalls x = Twins.busy();
+        EveningFalls x = busy();
         x.put(0, 32, 'x');
         return x;
     }
@@ -303,18 +290,18 @@ public final class CourtBoundsTest {
     private static void promise12Bounds() {
         for (int w : new int[] {-1, 7, 8, LOW, HIGH}) {
             for (int what : new int[] {0, 5}) {
-                Twins.refused("12: way(" + w + ", " + what + ")", Twins::busy, y -> y.way(w, what), BAD);
+                refused("12: way(" + w + ", " + what + ")", Bounds::busy, y -> y.way(w, what), BAD);
             }
         }
         for (int what : new int[] {-1, 6, LOW, HIGH}) {
             for (int w : new int[] {0, 6}) {
-                Twins.refused("12: way(" + w + ", " + what + ")", Twins::busy, y -> y.way(w, what), BAD);
+                refused("12: way(" + w + ", " + what + ")", Bounds::busy, y -> y.way(w, what), BAD);
             }
         }
-        Twins.Made one = () -> Check.court("k0w00", 1);
-        Twins.refused("12: of one WAY", one, y -> y.way(1, 0), BAD);
-        Twins.refused("12: of one WAY", one, y -> y.way(-1, 0), BAD);
-        Twins.refused("12: of no WAYS", Twins::bare, y -> y.way(0, 0), BAD);
+        Made one = () -> Check.court("k0w00", 1);
+        refused("12: of one WAY", one, y -> y.way(1, 0), BAD);
+        refused("12: of one WAY", one, y -> y.way(-1, 0), BAD);
+        refused("12: of no WAYS", Bounds::bare, y -> y.way(0, 0), BAD);
     }
 
     /** Which KIND IS of which: of its own, a PROXY also a RIOT, a LANDSLIDE also MIMED. */
@@ -332,10 +319,10 @@ public final class CourtBoundsTest {
             for (int kind = 1; kind <= 5; kind++) {
                 int asked = kind;
                 String what = "13: mark(0, " + kind + ") of " + words;
-                Twins.Made made = () -> Check.court(words, 1);
-                if (due[own][kind - 1] == UNLIKE) Twins.found(what, made, y -> y.mark(0, asked), UNLIKE);
+                Made made = () -> Check.court(words, 1);
+                if (due[own][kind - 1] == UNLIKE) found(what, made, y -> y.mark(0, asked), UNLIKE);
                 // By "k0" a MIMED one may come again after 1 DAY; all else tells 0 here.
-                else Twins.refused(what, made, y -> y.mark(0, asked), kind == 2 ? 1 : 0);
+                else refused(what, made, y -> y.mark(0, asked), kind == 2 ? 1 : 0);
             }
         }
     }
@@ -377,16 +364,16 @@ public final class CourtBoundsTest {
         for (int w : new int[] {-1, 7, LOW, HIGH}) {
             for (int kind = 1; kind <= 5; kind++) {
                 int asked = kind;
-                Twins.refused("13: mark(" + w + ", " + kind + ")", Twins::busy, y -> y.mark(w, asked), BAD);
+                refused("13: mark(" + w + ", " + kind + ")", Bounds::busy, y -> y.mark(w, asked), BAD);
             }
         }
         for (int kind : new int[] {0, -1, 6, LOW, HIGH}) {
             for (int w : new int[] {0, 1, 6}) {
-                Twins.refused("13: mark(" + w + ", " + kind + ")", Twins::busy, y -> y.mark(w, kind), BAD);
+                refused("13: mark(" + w + ", " + kind + ")", Bounds::busy, y -> y.mark(w, kind), BAD);
             }
         }
-        Twins.refused("13: of no WAYS", Twins::bare, y -> y.mark(0, 1), BAD);
-        Twins.found("13: UNLIKE", Twins::busy, y -> y.mark(3, 4), UNLIKE);
+        refused("13: of no WAYS", Bounds::bare, y -> y.mark(0, 1), BAD);
+        found("13: UNLIKE", Bounds::busy, y -> y.mark(3, 4), UNLIKE);
     }
 
     private static void promise14Days() {
@@ -414,10 +401,10 @@ public final class CourtBoundsTest {
 
     private static void promise14Refused() {
         for (int day : new int[] {-1, 1000, LOW, HIGH}) {
-            Twins.refused("14: away(" + day + ")", Twins::busy, y -> y.away(day), BAD);
-            Twins.refused("14: away(" + day + "), bare", Twins::bare, y -> y.away(day), BAD);
+            refused("14: away(" + day + ")", Bounds::busy, y -> y.away(day), BAD);
+            refused("14: away(" + day + "), bare", Bounds::bare, y -> y.away(day), BAD);
         }
-        Twins.refused("14: away(0), bare", Twins::bare, y -> y.away(0), 0);
-        Twins.refused("14: away(999), bare", Twins::bare, y -> y.away(999), 0);
+        refused("14: away(0), bare", Bounds::bare, y -> y.away(0), 0);
+        refused("14: away(999), bare", Bounds::bare, y -> y.away(999), 0);
     }
 }

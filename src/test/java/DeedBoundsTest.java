@@ -1,9 +1,5 @@
 /** Boundary cases of promises 15 to 20: what can be done on a DAY, DEEDS, kept COURTS. */
-public final class DeedBoundsTest {
-    private static final int BAD = Twins.BAD, FULL = Twins.FULL, STATE = Twins.STATE, NONE = Twins.NONE;
-    private static final int FINDING = Twins.FINDING, NOTHING = Twins.NOTHING;
-    private static final int LOW = Twins.LOW, HIGH = Twins.HIGH;
-
+public final class DeedBoundsTest extends Bounds {
     public static void main(String[] args) {
         promise15Rest();
         promise15RestBehindMuch();
@@ -26,15 +22,6 @@ public final class DeedBoundsTest {
         promise19Refused();
         promise20Sets();
         Check.end();
-    }
-
-    private static void due(String what, long got, long want) {
-        Check.due(what, got, want);
-    }
-
-    private static void asks(EveningFalls x, String what, int got, int want) {
-        due(what, got, 1);
-        due(what + ", asked()", x.asked(), want);
     }
 
     /** A WAY is refused for so many DAYS behind the one on which it was done, and not on the next one. */
@@ -175,19 +162,19 @@ public final class DeedBoundsTest {
 
     private static void promise15Refused() {
         for (int w : new int[] {-1, 7, LOW, HIGH}) {
-            Twins.refused("15: fall(" + w + ")", Twins::busy, y -> y.fall(w), BAD);
-            Twins.refused("15: fall(" + w + "), full", Twins::full, y -> y.fall(w), BAD);
-            Twins.refused("15: fall(" + w + "), bare", Twins::bare, y -> y.fall(w), BAD);
+            refused("15: fall(" + w + ")", Bounds::busy, y -> y.fall(w), BAD);
+            refused("15: fall(" + w + "), full", Bounds::full, y -> y.fall(w), BAD);
+            refused("15: fall(" + w + "), bare", Bounds::bare, y -> y.fall(w), BAD);
         }
-        Twins.refused("15: fall(0), bare", Twins::bare, y -> y.fall(0), BAD);
-        Twins.refused("15: the first WAY that there is not", Twins::full, y -> y.fall(3), BAD);
+        refused("15: fall(0), bare", Bounds::bare, y -> y.fall(0), BAD);
+        refused("15: the first WAY that there is not", Bounds::full, y -> y.fall(3), BAD);
         // On DAY 4 of busy() only the REGENT can be done.
         for (int w : new int[] {0, 1, 2, 4, 5, 6}) {
-            Twins.refused("15: fall(" + w + ")", Twins::busy, y -> y.fall(w), STATE);
+            refused("15: fall(" + w + ")", Bounds::busy, y -> y.fall(w), STATE);
         }
-        Twins.refused("15: FULL", Twins::full, y -> y.fall(0), FULL);
-        Twins.refused("15: FULL, another one", Twins::full, y -> y.fall(2), FULL);
-        Twins.refused("15: STATE ahead of FULL", Twins::full, y -> y.fall(1), STATE);
+        refused("15: FULL", Bounds::full, y -> y.fall(0), FULL);
+        refused("15: FULL, another one", Bounds::full, y -> y.fall(2), FULL);
+        refused("15: STATE ahead of FULL", Bounds::full, y -> y.fall(1), STATE);
     }
 
     private static void promise16Nights() {
@@ -206,12 +193,12 @@ public final class DeedBoundsTest {
     }
 
     private static void promise16Refused() {
-        Twins.refused("16: no WAYS", Twins::bare, EveningFalls::night, STATE);
-        Twins.refused("16: FULL", Twins::full, EveningFalls::night, FULL);
+        refused("16: no WAYS", Bounds::bare, EveningFalls::night, STATE);
+        refused("16: FULL", Bounds::full, EveningFalls::night, FULL);
     }
 
     private static void promise17Undone() {
-        EveningFalls x = Twins.busy();
+        EveningFalls x = busy();
         due("17: from the last one on", x.undo(3), 1);
         due("37: DEEDS", x.count(3), 3);
         due("37: the DAY", x.count(2), 3);
@@ -241,7 +228,7 @@ public final class DeedBoundsTest {
     }
 
     private static void promise17AllOfForty() {
-        EveningFalls x = Twins.full();
+        EveningFalls x = full();
         due("17: none of 40", x.undo(40), 0);
         due("17: still FULL", x.night(), FULL);
         due("17: the last of 40", x.undo(39), 1);
@@ -250,11 +237,11 @@ public final class DeedBoundsTest {
     }
 
     private static void promise17Refused() {
-        for (int n : new int[] {-1, 5, LOW, HIGH}) Twins.refused("17: undo(" + n + ")", Twins::busy, y -> y.undo(n), BAD);
-        for (int n : new int[] {-1, 41}) Twins.refused("17: undo(" + n + "), full", Twins::full, y -> y.undo(n), BAD);
-        for (int n : new int[] {-1, 1}) Twins.refused("17: undo(" + n + "), bare", Twins::bare, y -> y.undo(n), BAD);
-        Twins.refused("17: none of 4", Twins::busy, y -> y.undo(4), 0);
-        Twins.refused("17: none of none", Twins::bare, y -> y.undo(0), 0);
+        for (int n : new int[] {-1, 5, LOW, HIGH}) refused("17: undo(" + n + ")", Bounds::busy, y -> y.undo(n), BAD);
+        for (int n : new int[] {-1, 41}) refused("17: undo(" + n + "), full", Bounds::full, y -> y.undo(n), BAD);
+        for (int n : new int[] {-1, 1}) refused("17: undo(" + n + "), bare", Bounds::bare, y -> y.undo(n), BAD);
+        refused("17: none of 4", Bounds::busy, y -> y.undo(4), 0);
+        refused("17: none of none", Bounds::bare, y -> y.undo(0), 0);
     }
 
     private static void promise18Kept() {
@@ -276,22 +263,22 @@ public final class DeedBoundsTest {
         due("18: fewer in the place of more", x.keep(1), 0);
         due("18: fewer in the place of more", x.on(1), 0);
         due("18: the other one stays", x.on(2), 1);
-        due("18: all 40", Twins.full().keep(0), 40);
+        due("18: all 40", full().keep(0), 40);
     }
 
     private static void promise18Refused() {
         for (int k : new int[] {-1, 3, LOW, HIGH}) {
-            Twins.refused("18: keep(" + k + ")", Twins::busy, y -> y.keep(k), BAD);
-            Twins.refused("18: BAD ahead of STATE, keep(" + k + ")", Twins::bare, y -> y.keep(k), BAD);
+            refused("18: keep(" + k + ")", Bounds::busy, y -> y.keep(k), BAD);
+            refused("18: BAD ahead of STATE, keep(" + k + ")", Bounds::bare, y -> y.keep(k), BAD);
         }
         for (int k = 0; k <= 2; k++) {
             int place = k;
-            Twins.refused("18: no WAYS, keep(" + k + ")", Twins::bare, y -> y.keep(place), STATE);
+            refused("18: no WAYS, keep(" + k + ")", Bounds::bare, y -> y.keep(place), STATE);
         }
     }
 
     private static void promise19On() {
-        EveningFalls x = Twins.busy();
+        EveningFalls x = busy();
         long before = x.digest();
         x.keep(1);
         due("19: on(0)", x.on(0), 1);
@@ -313,14 +300,14 @@ public final class DeedBoundsTest {
         due("19: ROWS stay", x.count(8), 4);
         x.tear(1);
         x.on(1);
-        EveningFalls twin = Twins.busy();
+        EveningFalls twin = busy();
         twin.keep(1);
         due("19: all is as it was", x.digest(), twin.digest());
         Check.holds("19: keep() is seen by digest()", before != twin.digest());
     }
 
     private static void promise19OnOfForty() {
-        EveningFalls x = Twins.full();
+        EveningFalls x = full();
         due("19: undone", x.undo(0), 40);
         due("19: on(1)", x.on(1), 40);
         due("37: the DAY", x.count(2), 40);
@@ -334,15 +321,15 @@ public final class DeedBoundsTest {
 
     private static void promise19Refused() {
         for (int k : new int[] {-1, 3, LOW, HIGH}) {
-            Twins.refused("19: on(" + k + ")", Twins::busy, y -> y.on(k), BAD);
-            Twins.refused("19: on(" + k + "), bare", Twins::bare, y -> y.on(k), BAD);
+            refused("19: on(" + k + ")", Bounds::busy, y -> y.on(k), BAD);
+            refused("19: on(" + k + "), bare", Bounds::bare, y -> y.on(k), BAD);
         }
-        Twins.found("19: on(1)", Twins::busy, y -> y.on(1), NOTHING);
+        found("19: on(1)", Bounds::busy, y -> y.on(1), NOTHING);
         for (int k = 0; k <= 2; k++) {
             int place = k;
-            Twins.found("19: on(" + k + "), bare", Twins::bare, y -> y.on(place), NOTHING);
+            found("19: on(" + k + "), bare", Bounds::bare, y -> y.on(place), NOTHING);
         }
-        EveningFalls x = Twins.busy();
+        EveningFalls x = busy();
         x.court(0);
         due("19: kept COURTS went", x.on(0), FINDING);
     }
@@ -353,8 +340,8 @@ public final class DeedBoundsTest {
         due("20: the seventh alone", Check.court("k0o20w01w01w01w01w01w01w00", 7).can(), 64);
         due("20: the first alone", Check.court("k0o20w00w01w01w01w01w01w01", 7).can(), 1);
         due("20: none", Check.court("k0o20w01w01", 2).can(), 0);
-        due("20: also when FULL", Twins.full().can(), 5);
-        Twins.refused("20: aside", Twins::busy, EveningFalls::can, 8);
-        Twins.refused("20: aside, full", Twins::full, EveningFalls::can, 5);
+        due("20: also when FULL", full().can(), 5);
+        refused("20: aside", Bounds::busy, EveningFalls::can, 8);
+        refused("20: aside, full", Bounds::full, EveningFalls::can, 5);
     }
 }

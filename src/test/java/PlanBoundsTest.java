@@ -1,10 +1,5 @@
 /** Boundary cases of promises 21 to 27: PLANS, RULES of the usher, whom it takes, rounds. */
-public final class PlanBoundsTest {
-    private static final int BAD = Twins.BAD, FINDING = Twins.FINDING, STATE = Twins.STATE, NONE = Twins.NONE;
-    private static final int NOTHING = Twins.NOTHING, BEYOND = Twins.BEYOND, UNLIKE = Twins.UNLIKE, SIZE = Twins.SIZE;
-    private static final int LOW = Twins.LOW, HIGH = Twins.HIGH;
-    private static final int[] NO_ROW = {-1, 6, LOW, HIGH};
-
+public final class PlanBoundsTest extends Bounds {
     public static void main(String[] args) {
         promise21Numbers();
         promise21FromNowOn();
@@ -29,31 +24,10 @@ public final class PlanBoundsTest {
         Check.end();
     }
 
-    private static void due(String what, long got, long want) {
-        Check.due(what, got, want);
-    }
-
-    private static void asks(EveningFalls x, String what, int got, int want) {
-        due(what, got, 1);
-        due(what + ", asked()", x.asked(), want);
-    }
-
     private static void tells(EveningFalls x, String what, int got, long upper) {
         due(what, got, 1);
         due(what + ", upper()", x.upper(), upper);
         due(what + ", lower()", x.lower(), 1);
-    }
-
-    private static void bad(String what, Twins.Call call) {
-        Twins.refused(what + ", busy", Twins::busy, call, BAD);
-        Twins.refused(what + ", full", Twins::full, call, BAD);
-        Twins.refused(what + ", BAD ahead of STATE", Twins::bare, call, BAD);
-    }
-
-    private static void rowIs(EveningFalls x, String what, int r, int... places) {
-        for (int i = 0; i < places.length; i++) asks(x, what + ": place " + i, x.at(r, i), places[i]);
-        due(what + ": behind its end", x.at(r, places.length), FINDING);
-        due(what + ": BEYOND", x.finding(), BEYOND);
     }
 
     private static String seven(int rest) {
@@ -90,7 +64,7 @@ public final class PlanBoundsTest {
         // DAY 5 brings the LANDSLIDE beside the one that does not rest.
         tells(x, "21: up to DAY 5", x.plans(5), 2);
         due("21: aside", x.count(3), 1);
-        EveningFalls full = Twins.full();
+        EveningFalls full = full();
         tells(full, "21: also when FULL", full.plans(0), 1);
         tells(full, "21: also when FULL", full.plans(1), 2);
         due("21: aside", full.count(3), 40);
@@ -98,8 +72,8 @@ public final class PlanBoundsTest {
 
     private static void promise21Refused() {
         for (int n : new int[] {-1, 7, LOW, HIGH}) bad("21: plans(" + n + ")", y -> y.plans(n));
-        Twins.refused("21: no WAYS", Twins::bare, y -> y.plans(0), STATE);
-        Twins.refused("21: no WAYS", Twins::bare, y -> y.plans(6), STATE);
+        refused("21: no WAYS", Bounds::bare, y -> y.plans(0), STATE);
+        refused("21: no WAYS", Bounds::bare, y -> y.plans(6), STATE);
     }
 
     private static void promise22Least() {
@@ -119,7 +93,7 @@ public final class PlanBoundsTest {
         rowIs(x, "22: an empty one", 0);
         due("22: no TROUBLE is no NONE", Check.court("k0w00", 1).least(6, 0), 0);
         due("22: the most", Check.court("k1p90w90", 2).least(6, 0), 81);
-        EveningFalls full = Twins.full();
+        EveningFalls full = full();
         due("22: also when FULL", full.least(6, 2), 3);
         due("22: aside", full.count(3), 40);
     }
@@ -145,7 +119,7 @@ public final class PlanBoundsTest {
     }
 
     private static void promise22None() {
-        Twins.Made two = () -> {
+        Made two = () -> {
             EveningFalls x = Check.court("k6w50w20", 2);
             x.row(0, 5);
             x.lay(0, 4, 3);
@@ -155,8 +129,8 @@ public final class PlanBoundsTest {
         };
         for (int n = 3; n <= 6; n++) {
             int days = n;
-            Twins.refused("22: NONE, " + n, two, y -> y.least(days, 0), NONE);
-            Twins.refused("22: NONE, a missing ROW, " + n, two, y -> y.least(days, 1), NONE);
+            refused("22: NONE, " + n, two, y -> y.least(days, 0), NONE);
+            refused("22: NONE, a missing ROW, " + n, two, y -> y.least(days, 1), NONE);
         }
         EveningFalls x = two.get();
         due("22: just as many as there are", x.least(2, 0), 7);
@@ -171,8 +145,8 @@ public final class PlanBoundsTest {
             bad("22: least(-1, " + r + ")", y -> y.least(-1, r));
             bad("22: least(0, " + r + ")", y -> y.least(0, r));
         }
-        Twins.refused("22: no WAYS", Twins::bare, y -> y.least(0, 0), STATE);
-        Twins.refused("22: no WAYS", Twins::bare, y -> y.least(6, 5), STATE);
+        refused("22: no WAYS", Bounds::bare, y -> y.least(0, 0), STATE);
+        refused("22: no WAYS", Bounds::bare, y -> y.least(6, 5), STATE);
     }
 
     private static void promise23Days() {
@@ -195,7 +169,7 @@ public final class PlanBoundsTest {
         EveningFalls x = Check.court("k6o21w00w01", 2);
         due("23: not the first that can be done", x.longest(1), 2);
         rowIs(x, "23: not the first that can be done", 1, 1, 0);
-        EveningFalls full = Twins.full();
+        EveningFalls full = full();
         due("23: also when FULL", full.longest(1), 6);
         due("23: aside", full.count(3), 40);
         due("23: asked() is not told", full.asked(), 0);
@@ -203,8 +177,8 @@ public final class PlanBoundsTest {
 
     private static void promise23Refused() {
         for (int r : NO_ROW) bad("23: longest(" + r + ")", y -> y.longest(r));
-        Twins.refused("23: no WAYS", Twins::bare, y -> y.longest(0), STATE);
-        Twins.refused("23: no WAYS", Twins::bare, y -> y.longest(5), STATE);
+        refused("23: no WAYS", Bounds::bare, y -> y.longest(0), STATE);
+        refused("23: no WAYS", Bounds::bare, y -> y.longest(5), STATE);
     }
 
     private static EveningFalls withRow(String words, int ways, int... places) {
@@ -230,32 +204,32 @@ public final class PlanBoundsTest {
         due("24: from now on", x.goes(0), 0);
         x.fall(1);
         due("24: from now on", x.goes(0), 2);
-        Twins.refused("24: aside", () -> withRow("k1w00w00", 2, 0, 1, 0, 0), y -> y.goes(0), 3);
-        EveningFalls full = Twins.full();
+        refused("24: aside", () -> withRow("k1w00w00", 2, 0, 1, 0, 0), y -> y.goes(0), 3);
+        EveningFalls full = full();
         full.row(4, 12);
         due("24: also when FULL", full.goes(4), 12);
     }
 
     private static void promise24Refused() {
         for (int r : NO_ROW) bad("24: goes(" + r + ")", y -> y.goes(r));
-        Twins.refused("24: STATE ahead of NOTHING", Twins::bare, y -> y.goes(0), STATE);
-        Twins.refused("24: STATE ahead of SIZE, UNLIKE", () -> {
+        refused("24: STATE ahead of NOTHING", Bounds::bare, y -> y.goes(0), STATE);
+        refused("24: STATE ahead of SIZE, UNLIKE", () -> {
             EveningFalls x = new EveningFalls();
             x.row(0, 13);
             x.row(1, 1);
             return x;
         }, y -> y.goes(0) + y.goes(1), STATE + STATE);
-        Twins.found("24: NOTHING", Twins::busy, y -> y.goes(1), NOTHING);
-        Twins.found("24: SIZE, 40", Twins::busy, y -> y.goes(5), SIZE);
-        Twins.found("24: SIZE, 13", () -> withRow("k0w00", 1, new int[13]), y -> y.goes(0), SIZE);
-        Twins.found("24: UNLIKE", Twins::busy, y -> y.goes(0), UNLIKE);
+        found("24: NOTHING", Bounds::busy, y -> y.goes(1), NOTHING);
+        found("24: SIZE, 40", Bounds::busy, y -> y.goes(5), SIZE);
+        found("24: SIZE, 13", () -> withRow("k0w00", 1, new int[13]), y -> y.goes(0), SIZE);
+        found("24: UNLIKE", Bounds::busy, y -> y.goes(0), UNLIKE);
         for (int v : new int[] {-1, 2, LOW, HIGH}) {
-            Twins.found("24: UNLIKE at first, " + v, () -> withRow("k0w00w00", 2, v, 0), y -> y.goes(0), UNLIKE);
-            Twins.found("24: UNLIKE at last, " + v, () -> withRow("k0w00w00", 2, 0, v), y -> y.goes(0), UNLIKE);
-            Twins.found("24: UNLIKE where it does not go, " + v, () -> withRow("k1w00w00", 2, 0, 0, v), y -> y.goes(0), UNLIKE);
+            found("24: UNLIKE at first, " + v, () -> withRow("k0w00w00", 2, v, 0), y -> y.goes(0), UNLIKE);
+            found("24: UNLIKE at last, " + v, () -> withRow("k0w00w00", 2, 0, v), y -> y.goes(0), UNLIKE);
+            found("24: UNLIKE where it does not go, " + v, () -> withRow("k1w00w00", 2, 0, 0, v), y -> y.goes(0), UNLIKE);
             int[] many = new int[13];
             many[0] = v;
-            Twins.found("24: SIZE ahead of UNLIKE, " + v, () -> withRow("k0w00", 1, many), y -> y.goes(0), SIZE);
+            found("24: SIZE ahead of UNLIKE, " + v, () -> withRow("k0w00", 1, many), y -> y.goes(0), SIZE);
         }
     }
 
@@ -285,13 +259,13 @@ public final class PlanBoundsTest {
         y.fall(2);
         due("25: rule 2, those that never were, in their order", y.lasts(2), 2);
         due("25: rule 2, those that never were, in their order", y.asked(), 3);
-        Twins.Made made = () -> {
+        Made made = () -> {
             EveningFalls z = Check.court("k3w10w20w30", 3);
             z.lasts(0);
             return z;
         };
-        Twins.refused("25: aside", made, z -> z.lasts(0), 3);
-        due("25: also when FULL", Twins.full().lasts(0), 60);
+        refused("25: aside", made, z -> z.lasts(0), 3);
+        due("25: also when FULL", full().lasts(0), 60);
     }
 
     /** Three PEOPLE who are all AWAY first on a given DAY, one WAY for each: there is none on that DAY first. */
@@ -331,7 +305,7 @@ public final class PlanBoundsTest {
         for (int rule : new int[] {-1, 3, LOW, HIGH}) bad("25: lasts(" + rule + ")", y -> y.lasts(rule));
         for (int rule = 0; rule <= 2; rule++) {
             int asked = rule;
-            Twins.refused("25: no WAYS", Twins::bare, y -> y.lasts(asked), STATE);
+            refused("25: no WAYS", Bounds::bare, y -> y.lasts(asked), STATE);
         }
     }
 
@@ -361,19 +335,19 @@ public final class PlanBoundsTest {
         takesAre("k0o20o76o76w01w02", 2, 1, 1, 2);
         takesAre("k0g00", 1, 0, 0, 0);
         takesAre("k0g00", 1, 1, NONE, 0);
-        due("26: also when FULL", Twins.full().takes(6), 0);
+        due("26: also when FULL", full().takes(6), 0);
     }
 
     private static void promise26Refused() {
         for (int n : new int[] {-1, 7, LOW, HIGH}) bad("26: takes(" + n + ")", y -> y.takes(n));
-        Twins.refused("26: no WAYS", Twins::bare, y -> y.takes(0), STATE);
-        Twins.refused("26: no WAYS", Twins::bare, y -> y.takes(6), STATE);
-        Twins.refused("26: NONE leaves asked()", () -> {
+        refused("26: no WAYS", Bounds::bare, y -> y.takes(0), STATE);
+        refused("26: no WAYS", Bounds::bare, y -> y.takes(6), STATE);
+        refused("26: NONE leaves asked()", () -> {
             EveningFalls x = Check.court("k6o20w30p90", 2);
             x.way(1, 1);
             return x;
         }, y -> y.takes(3), NONE);
-        Twins.refused("26: aside", () -> {
+        refused("26: aside", () -> {
             EveningFalls x = Check.court("k6o21w31w30", 2);
             x.takes(2);
             return x;
@@ -438,16 +412,16 @@ public final class PlanBoundsTest {
         x.fall(0);
         tells(x, "27: what was done is no matter", x.rounds(2), 2);
         due("27: what was done is no matter", x.asked(), 0);
-        EveningFalls full = Twins.full();
+        EveningFalls full = full();
         tells(full, "27: also when FULL", full.rounds(1), 2);
     }
 
     private static void promise27Refused() {
         for (int n : new int[] {0, -1, 6, LOW, HIGH}) bad("27: rounds(" + n + ")", y -> y.rounds(n));
-        Twins.refused("27: no WAYS", Twins::bare, y -> y.rounds(1), STATE);
-        Twins.refused("27: no WAYS", Twins::bare, y -> y.rounds(5), STATE);
-        Twins.refused("27: aside", () -> {
-            EveningFalls x = Check.court(Twins.SEVEN, 7);
+        refused("27: no WAYS", Bounds::bare, y -> y.rounds(1), STATE);
+        refused("27: no WAYS", Bounds::bare, y -> y.rounds(5), STATE);
+        refused("27: aside", () -> {
+            EveningFalls x = Check.court(SEVEN, 7);
             x.fall(4);
             x.rounds(4);
             return x;

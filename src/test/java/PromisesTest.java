@@ -1,10 +1,5 @@
 /** Each promise by itself: ordinary inputs, edges that the document names, wrong inputs. */
-public final class PromisesTest {
-    private static final int BAD = -1, FULL = -2, FINDING = -3, STATE = -4, NONE = -9;
-    private static final int LOW = Integer.MIN_VALUE, HIGH = Integer.MAX_VALUE;
-    /** REST 3; PEOPLE away on even DAYS, on 1, 4, .., on 5, 12, ..; one WAY of each KIND, and a RIOT more. */
-    private static final String SEVEN = "k3o20o31o75 w41r32m71g20p57l94r60";
-
+public final class PromisesTest extends Bounds {
     public static void main(String[] args) {
         newObject();
         rowsLaidAndTorn();
@@ -41,21 +36,6 @@ public final class PromisesTest {
         countsAndFindings();
         digests();
         Check.end();
-    }
-
-    private static void due(String what, long got, long want) {
-        Check.due(what, got, want);
-    }
-
-    private static void asks(EveningFalls x, String what, int got, int want) {
-        due(what, got, 1);
-        due(what + ", asked()", x.asked(), want);
-    }
-
-    private static void tells(EveningFalls x, String what, int got, long upper, long lower) {
-        due(what, got, 1);
-        due(what + ", upper()", x.upper(), upper);
-        due(what + ", lower()", x.lower(), lower);
     }
 
     private static void finds(EveningFalls x, String what, int got, int finding) {

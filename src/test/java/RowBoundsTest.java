@@ -1,11 +1,5 @@
 /** Boundary cases of promises 1 to 9: a new object, ROWS, TEXTS. */
-public final class RowBoundsTest {
-    private static final int BAD = Twins.BAD, STATE = Twins.STATE;
-    private static final int NOTHING = Twins.NOTHING, BEYOND = Twins.BEYOND, NOUGHT = Twins.NOUGHT, SIZE = Twins.SIZE;
-    private static final int LOW = Twins.LOW, HIGH = Twins.HIGH;
-    private static final int[] NO_ROW = {-1, 6, LOW, HIGH};
-    private static final int[] NO_TEXT = {-1, 4, LOW, HIGH};
-
+public final class RowBoundsTest extends Bounds {
     public static void main(String[] args) {
         promise1NothingIsThere();
         promise1NothingCanBeDone();
@@ -25,29 +19,8 @@ public final class RowBoundsTest {
         Check.end();
     }
 
-    private static void due(String what, long got, long want) {
-        Check.due(what, got, want);
-    }
-
-    private static void asks(EveningFalls x, String what, int got, int want) {
-        due(what, got, 1);
-        due(what + ", asked()", x.asked(), want);
-    }
-
-    private static void bad(String what, Twins.Call call) {
-        Twins.refused(what + ", busy", Twins::busy, call, BAD);
-        Twins.refused(what + ", bare", Twins::bare, call, BAD);
-    }
-
-    private static void found(String what, Twins.Call call, int finding) {
-        Twins.found(what, Twins::busy, call, finding);
-    }
-
-    /** The places of a ROW are just these. */
-    private static void rowIs(EveningFalls x, String what, int r, int... places) {
-        for (int i = 0; i < places.length; i++) asks(x, what + ": place " + i, x.at(r, i), places[i]);
-        due(what + ": behind its end", x.at(r, places.length), Twins.FINDING);
-        due(what + ": BEYOND", x.finding(), BEYOND);
+    private static void found(String what, Call call, int finding) {
+        found(what, Bounds::busy, call, finding);
     }
 
     private static void promise1NothingIsThere() {
@@ -64,35 +37,35 @@ public final class RowBoundsTest {
         due("1: undo(0)", x.undo(0), 0);
         for (int r = 0; r <= 5; r++) {
             int row = r;
-            Twins.found("1: at(" + r + ", 0)", Twins::bare, y -> y.at(row, 0), NOTHING);
-            Twins.found("1: lay(" + r + ", 0, 1)", Twins::bare, y -> y.lay(row, 0, 1), NOTHING);
-            Twins.found("1: tear(" + r + ")", Twins::bare, y -> y.tear(row), NOTHING);
-            Twins.found("1: mean(" + r + ")", Twins::bare, y -> y.mean(row), NOTHING);
-            Twins.found("1: copy(" + r + ", ..)", Twins::bare, y -> y.copy(row, 0, row, 0, 0), NOTHING);
+            found("1: at(" + r + ", 0)", Bounds::bare, y -> y.at(row, 0), NOTHING);
+            found("1: lay(" + r + ", 0, 1)", Bounds::bare, y -> y.lay(row, 0, 1), NOTHING);
+            found("1: tear(" + r + ")", Bounds::bare, y -> y.tear(row), NOTHING);
+            found("1: mean(" + r + ")", Bounds::bare, y -> y.mean(row), NOTHING);
+            found("1: copy(" + r + ", ..)", Bounds::bare, y -> y.copy(row, 0, row, 0, 0), NOTHING);
         }
         for (int t = 0; t <= 3; t++) {
             int text = t;
-            Twins.found("1: put(" + t + ", 0, 1)", Twins::bare, y -> y.put(text, 0, 1), NOTHING);
-            Twins.found("1: fault(" + t + ")", Twins::bare, y -> y.fault(text), NOTHING);
-            Twins.found("1: court(" + t + ")", Twins::bare, y -> y.court(text), NOTHING);
+            found("1: put(" + t + ", 0, 1)", Bounds::bare, y -> y.put(text, 0, 1), NOTHING);
+            found("1: fault(" + t + ")", Bounds::bare, y -> y.fault(text), NOTHING);
+            found("1: court(" + t + ")", Bounds::bare, y -> y.court(text), NOTHING);
         }
         for (int k = 0; k <= 2; k++) {
             int place = k;
-            Twins.found("1: on(" + k + ")", Twins::bare, y -> y.on(place), NOTHING);
+            found("1: on(" + k + ")", Bounds::bare, y -> y.on(place), NOTHING);
         }
     }
 
     private static void promise1NothingCanBeDone() {
-        Twins.Call[] calls = {y -> y.night(), y -> y.keep(0), y -> y.plans(0), y -> y.least(0, 0), y -> y.longest(0),
+        Call[] calls = {y -> y.night(), y -> y.keep(0), y -> y.plans(0), y -> y.least(0, 0), y -> y.longest(0),
             y -> y.goes(0), y -> y.lasts(0), y -> y.takes(0), y -> y.rounds(1), y -> y.lost(0, 0), y -> y.strikes(0),
             y -> y.odds(0), y -> y.mid(0), y -> y.lots(1, 1)};
         for (int i = 0; i < calls.length; i++) {
-            Twins.refused("1: no WAYS, call " + i, Twins::bare, calls[i], STATE);
+            refused("1: no WAYS, call " + i, Bounds::bare, calls[i], STATE);
         }
-        Twins.Call[] ofNoWay = {y -> y.way(0, 0), y -> y.mark(0, 1), y -> y.fall(0), y -> y.kinds(0, 0, 0, 0),
+        Call[] ofNoWay = {y -> y.way(0, 0), y -> y.mark(0, 1), y -> y.fall(0), y -> y.kinds(0, 0, 0, 0),
             y -> y.undo(1)};
         for (int i = 0; i < ofNoWay.length; i++) {
-            Twins.refused("1: no WAY 0, call " + i, Twins::bare, ofNoWay[i], BAD);
+            refused("1: no WAY 0, call " + i, Bounds::bare, ofNoWay[i], BAD);
         }
     }
 
@@ -115,7 +88,7 @@ public final class RowBoundsTest {
             bad("2: row(" + r + ", HIGH)", y -> y.row(r, HIGH));
             found("2: row(" + r + ", -1)", y -> y.row(r, -1), SIZE);
             found("2: row(" + r + ", LOW)", y -> y.row(r, LOW), SIZE);
-            Twins.found("2: row(" + r + ", -1)", Twins::bare, y -> y.row(r, -1), SIZE);
+            found("2: row(" + r + ", -1)", Bounds::bare, y -> y.row(r, -1), SIZE);
         }
     }
 
@@ -175,15 +148,15 @@ public final class RowBoundsTest {
     }
 
     private static void promise5Torn() {
-        EveningFalls x = Twins.busy();
+        EveningFalls x = busy();
         due("5: the first", x.tear(0), 1);
         due("5: an empty one", x.tear(3), 1);
         due("5: the last", x.tear(5), 1);
         due("5: ROWS that are there", x.count(8), 0);
         due("5: asked() stays", x.asked(), 77);
-        due("5: torn, at()", x.at(0, 0), Twins.FINDING);
+        due("5: torn, at()", x.at(0, 0), FINDING);
         due("5: torn, NOTHING", x.finding(), NOTHING);
-        due("5: torn, goes()", x.goes(0), Twins.FINDING);
+        due("5: torn, goes()", x.goes(0), FINDING);
         due("5: torn, NOTHING", x.finding(), NOTHING);
         due("5: anew", x.row(0, 3), 3);
         rowIs(x, "5: anew", 0, 0, 0, 0);
@@ -246,9 +219,9 @@ public final class RowBoundsTest {
             bad("6: BAD ahead of BEYOND, to " + r, y -> y.copy(0, -1, r, 0, 1));
         }
         for (int n : new int[] {-1, LOW}) {
-            Twins.found("6: SIZE, " + n, RowBoundsTest::counted, y -> y.copy(0, 0, 1, 0, n), SIZE);
-            Twins.found("6: SIZE ahead of NOTHING", RowBoundsTest::counted, y -> y.copy(2, 0, 3, 0, n), SIZE);
-            Twins.found("6: SIZE ahead of BEYOND", RowBoundsTest::counted, y -> y.copy(0, -1, 1, 9, n), SIZE);
+            found("6: SIZE, " + n, RowBoundsTest::counted, y -> y.copy(0, 0, 1, 0, n), SIZE);
+            found("6: SIZE ahead of NOTHING", RowBoundsTest::counted, y -> y.copy(2, 0, 3, 0, n), SIZE);
+            found("6: SIZE ahead of BEYOND", RowBoundsTest::counted, y -> y.copy(0, -1, 1, 9, n), SIZE);
         }
         found("6: NOTHING, from", y -> y.copy(1, 0, 0, 0, 1), NOTHING);
         found("6: NOTHING, to", y -> y.copy(0, 0, 1, 0, 1), NOTHING);
@@ -261,7 +234,7 @@ public final class RowBoundsTest {
             {0, 0, 1, 0, HIGH}, {0, 1, 1, 0, HIGH}, {0, HIGH, 1, 0, HIGH}, {0, 0, 1, HIGH, HIGH}, {0, HIGH, 1, 0, 0},
             {0, LOW, 1, 0, HIGH}, {0, 0, 1, LOW, 1}, {0, 0, 1, HIGH, 1}, {0, HIGH, 1, HIGH, 1}};
         for (int[] b : beyond) {
-            Twins.found("6: copy(" + b[0] + ", " + b[1] + ", " + b[2] + ", " + b[3] + ", " + b[4] + ")",
+            found("6: copy(" + b[0] + ", " + b[1] + ", " + b[2] + ", " + b[3] + ", " + b[4] + ")",
                     RowBoundsTest::counted, y -> y.copy(b[0], b[1], b[2], b[3], b[4]), BEYOND);
         }
     }

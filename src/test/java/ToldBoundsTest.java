@@ -1,10 +1,5 @@
 /** Boundary cases of promises 34 to 40: asked(), upper(), lower(), counts, FINDINGS, digest(). */
-public final class ToldBoundsTest {
-    private static final int BAD = Twins.BAD, FINDING = Twins.FINDING, NONE = Twins.NONE;
-    private static final int NOTHING = Twins.NOTHING, BEYOND = Twins.BEYOND, UNLIKE = Twins.UNLIKE;
-    private static final int NOUGHT = Twins.NOUGHT, SIZE = Twins.SIZE;
-    private static final int LOW = Twins.LOW, HIGH = Twins.HIGH;
-
+public final class ToldBoundsTest extends Bounds {
     public static void main(String[] args) {
         promise34WhoTells();
         promise34WhoDoesNot();
@@ -21,10 +16,6 @@ public final class ToldBoundsTest {
         promise40Busy();
         promise40EachPart();
         Check.end();
-    }
-
-    private static void due(String what, long got, long want) {
-        Check.due(what, got, want);
     }
 
     private static void asks(EveningFalls x, String what, long want) {
@@ -73,21 +64,21 @@ public final class ToldBoundsTest {
     }
 
     private static void promise34WhoDoesNot() {
-        Twins.Call[] others = {y -> y.row(1, 3), y -> y.tear(0), y -> y.copy(0, 0, 0, 1, 1), y -> y.text(1, 3),
+        Call[] others = {y -> y.row(1, 3), y -> y.tear(0), y -> y.copy(0, 0, 0, 1, 1), y -> y.text(1, 3),
             y -> y.put(0, 0, 1), y -> y.fault(0), y -> y.court(0), y -> y.mark(1, 1), y -> y.away(0), y -> y.fall(3),
             y -> y.night(), y -> y.undo(1), y -> y.keep(0), y -> y.on(0), y -> y.can(), y -> y.plans(1),
             y -> y.least(1, 1), y -> y.longest(1), y -> y.goes(3), y -> y.lost(0, 0), y -> y.kinds(0, 0, 0, 0),
             y -> y.strikes(1), y -> y.odds(1), y -> y.mid(1), y -> y.lots(1, 1), y -> y.upper(), y -> y.lower(),
             y -> y.count(0), y -> y.finding(), y -> y.findings(1), y -> y.digest()};
         for (int i = 0; i < others.length; i++) {
-            EveningFalls x = Twins.busy();
+            EveningFalls x = busy();
             Check.holds("34: not refused, call " + i, others[i].to(x) >= 0 || i == 5 || i == 30);
             asks(x, "34: call " + i + " does not tell", 77);
         }
-        Twins.Call[] refused = {y -> y.lay(0, 3, 1), y -> y.at(0, 3), y -> y.mean(3), y -> y.way(0, 6), y -> y.lasts(3),
+        Call[] refused = {y -> y.lay(0, 3, 1), y -> y.at(0, 3), y -> y.mean(3), y -> y.way(0, 6), y -> y.lasts(3),
             y -> y.takes(7), y -> y.rounds(6), y -> y.lay(6, 0, 0), y -> y.at(1, 0), y -> y.mean(6)};
         for (int i = 0; i < refused.length; i++) {
-            EveningFalls x = Twins.busy();
+            EveningFalls x = busy();
             Check.holds("34: refused, call " + i, refused[i].to(x) < 0);
             asks(x, "34: refused, call " + i, 77);
         }
@@ -126,7 +117,7 @@ public final class ToldBoundsTest {
     }
 
     private static void promise35And36WhoDoesNot() {
-        Twins.Call[] others = {y -> y.row(1, 3), y -> y.lay(0, 0, 1), y -> y.at(0, 0), y -> y.tear(0),
+        Call[] others = {y -> y.row(1, 3), y -> y.lay(0, 0, 1), y -> y.at(0, 0), y -> y.tear(0),
             y -> y.copy(0, 0, 0, 1, 1), y -> y.mean(0), y -> y.text(1, 3), y -> y.put(0, 0, 1), y -> y.fault(0),
             y -> y.court(0), y -> y.way(0, 1), y -> y.mark(1, 1), y -> y.away(0), y -> y.fall(3), y -> y.night(),
             y -> y.undo(1), y -> y.keep(0), y -> y.on(0), y -> y.can(), y -> y.least(1, 1), y -> y.longest(1),
@@ -136,7 +127,7 @@ public final class ToldBoundsTest {
             y -> y.plans(7), y -> y.plans(-1), y -> y.rounds(0), y -> y.rounds(6), y -> y.odds(13), y -> y.odds(-1),
             y -> y.mid(13), y -> y.mid(-1), y -> y.row(6, -1), y -> y.at(1, 0)};
         for (int i = 0; i < others.length; i++) {
-            EveningFalls x = Twins.busy();
+            EveningFalls x = busy();
             others[i].to(x);
             tells(x, "35, 36: call " + i + " does not tell", 27, 8);
         }
@@ -174,16 +165,16 @@ public final class ToldBoundsTest {
 
     private static void promise37Refused() {
         for (int what : new int[] {-1, 11, LOW, HIGH}) {
-            Twins.refused("37: count(" + what + ")", Twins::busy, y -> y.count(what), BAD);
-            Twins.refused("37: count(" + what + "), bare", Twins::bare, y -> y.count(what), BAD);
+            refused("37: count(" + what + ")", Bounds::busy, y -> y.count(what), BAD);
+            refused("37: count(" + what + "), bare", Bounds::bare, y -> y.count(what), BAD);
         }
     }
 
     private static void promise38EachFinding() {
-        EveningFalls x = Twins.full();
+        EveningFalls x = full();
         due("38: before any", x.finding(), 0);
         x.row(0, 0);
-        Twins.Call[] calls = {y -> y.at(1, 0), y -> y.at(0, 0), y -> y.mark(0, 1), y -> y.mean(0), y -> y.row(1, -1)};
+        Call[] calls = {y -> y.at(1, 0), y -> y.at(0, 0), y -> y.mark(0, 1), y -> y.mean(0), y -> y.row(1, -1)};
         int[] findings = {NOTHING, BEYOND, UNLIKE, NOUGHT, SIZE};
         for (int i = 0; i < 5; i++) {
             due("38: call " + i, calls[i].to(x), FINDING);
@@ -195,28 +186,28 @@ public final class ToldBoundsTest {
     }
 
     private static void promise38NoFinding() {
-        Twins.Call[] calls = {y -> y.row(6, -1), y -> y.row(0, 41), y -> y.court(2), y -> y.fall(0), y -> y.fall(7),
+        Call[] calls = {y -> y.row(6, -1), y -> y.row(0, 41), y -> y.court(2), y -> y.fall(0), y -> y.fall(7),
             y -> y.least(3, 9), y -> y.fault(0), y -> y.fault(2), y -> y.way(0, 3), y -> y.row(1, 1), y -> y.night(),
             y -> y.findings(0), y -> y.count(11), y -> y.digest()};
         for (int i = 0; i < calls.length; i++) {
-            EveningFalls x = Twins.busy();
+            EveningFalls x = busy();
             calls[i].to(x);
             due("38: no finding by call " + i, x.finding(), UNLIKE);
             for (int f = 1; f <= 5; f++) due("39: no finding by call " + i, x.findings(f), f);
         }
-        Twins.Call[] ofNone = {y -> y.plans(0), y -> y.keep(0), y -> y.night(), y -> y.on(3), y -> y.goes(0)};
+        Call[] ofNone = {y -> y.plans(0), y -> y.keep(0), y -> y.night(), y -> y.on(3), y -> y.goes(0)};
         for (int i = 0; i < ofNone.length; i++) {
             EveningFalls x = new EveningFalls();
             ofNone[i].to(x);
             due("38: still before any, call " + i, x.finding(), 0);
         }
-        EveningFalls full = Twins.full();
+        EveningFalls full = full();
         full.night();
         due("38: FULL is no finding", full.finding(), 0);
     }
 
     private static void promise39Counted() {
-        EveningFalls x = Twins.busy();
+        EveningFalls x = busy();
         for (int f = 1; f <= 5; f++) due("39: findings(" + f + ")", x.findings(f), f);
         for (int i = 0; i < 100; i++) x.at(1, 0);
         due("39: a hundred more", x.findings(NOTHING), 101);
@@ -229,8 +220,8 @@ public final class ToldBoundsTest {
 
     private static void promise39Refused() {
         for (int f : new int[] {0, -1, 6, LOW, HIGH}) {
-            Twins.refused("39: findings(" + f + ")", Twins::busy, y -> y.findings(f), BAD);
-            Twins.refused("39: findings(" + f + "), bare", Twins::bare, y -> y.findings(f), BAD);
+            refused("39: findings(" + f + ")", Bounds::busy, y -> y.findings(f), BAD);
+            refused("39: findings(" + f + "), bare", Bounds::bare, y -> y.findings(f), BAD);
         }
     }
 
@@ -273,17 +264,17 @@ public final class ToldBoundsTest {
 
     /** Whatever is changed is seen, and undone again it is as before. */
     private static void promise40EachPart() {
-        Twins.Call[] changes = {y -> y.row(1, 0), y -> y.row(3, 1), y -> y.lay(5, 0, 1), y -> y.lay(5, 39, 8),
+        Call[] changes = {y -> y.row(1, 0), y -> y.row(3, 1), y -> y.lay(5, 0, 1), y -> y.lay(5, 39, 8),
             y -> y.tear(3), y -> y.text(1, 0), y -> y.put(3, 0, 33), y -> y.put(3, 59, 201), y -> y.court(0),
             y -> y.fall(3), y -> y.night(), y -> y.undo(3), y -> y.keep(0), y -> y.keep(1), y -> y.on(0),
             y -> y.lots(1, 1)};
-        long before = Twins.busy().digest();
+        long before = busy().digest();
         for (int i = 0; i < changes.length; i++) {
-            EveningFalls x = Twins.busy();
+            EveningFalls x = busy();
             changes[i].to(x);
             Check.holds("40: change " + i + " is seen", x.digest() != before);
         }
-        EveningFalls x = Twins.busy();
+        EveningFalls x = busy();
         due("40: told again alike", x.digest(), before);
         due("40: told again alike", x.digest(), before);
         x.fall(3);

@@ -1,11 +1,16 @@
 import java.util.ArrayList;
 import java.util.List;
 
-/** Two objects made alike: one is asked what must be refused, then both are looked over. */
-final class Twins {
+/**
+ * What the tests of boundary cases share. Whether a refused call changes nothing is seen by two objects made
+ * alike: one is asked what must be refused, then both are looked over.
+ */
+abstract class Bounds {
     static final int BAD = -1, FULL = -2, FINDING = -3, STATE = -4, SPENT = -6, NONE = -9;
     static final int NOTHING = 1, BEYOND = 2, UNLIKE = 3, NOUGHT = 4, SIZE = 5;
     static final int LOW = Integer.MIN_VALUE, HIGH = Integer.MAX_VALUE;
+    static final int[] NO_ROW = {-1, 6, LOW, HIGH};
+    static final int[] NO_TEXT = {-1, 4, LOW, HIGH};
     /** REST 3; PEOPLE away on even DAYS, on 1, 4, .., on 5, 12, ..; one WAY of each KIND, and a RIOT more. */
     static final String SEVEN = "k3o20o31o75 w41r32m71g20p57l94r60";
 
@@ -17,14 +22,40 @@ final class Twins {
         long to(EveningFalls x);
     }
 
-    private Twins() {
+    static void due(String what, long got, long want) {
+        Check.due(what, got, want);
+    }
+
+    static void asks(EveningFalls x, String what, int got, int want) {
+        due(what, got, 1);
+        due(what + ", asked()", x.asked(), want);
+    }
+
+    static void tells(EveningFalls x, String what, int got, long upper, long lower) {
+        due(what, got, 1);
+        due(what + ", upper()", x.upper(), upper);
+        due(what + ", lower()", x.lower(), lower);
+    }
+
+    /** The places of a ROW are just these. */
+    static void rowIs(EveningFalls x, String what, int r, int... places) {
+        for (int i = 0; i < places.length; i++) asks(x, what + ": place " + i, x.at(r, i), places[i]);
+        due(what + ": behind its end", x.at(r, places.length), FINDING);
+        due(what + ": BEYOND", x.finding(), BEYOND);
+    }
+
+    /** BAD in every state, so also ahead of STATE and FULL. */
+    static void bad(String what, Call call) {
+        refused(what + ", busy", Bounds::busy, call, BAD);
+        refused(what + ", full", Bounds::full, call, BAD);
+        refused(what + ", bare", Bounds::bare, call, BAD);
     }
 
     /** BAD, FULL, STATE, or NONE: it changes nothing at all. */
     static void refused(String what, Made made, Call call, int answer) {
         EveningFalls asked = made.get();
         EveningFalls left = made.get();
-        Check.due(what, call.to(asked), answer);
+        due(what, call.to(asked), answer);
         alike(what, asked, left, 0);
     }
 
@@ -32,14 +63,14 @@ final class Twins {
     static void found(String what, Made made, Call call, int finding) {
         EveningFalls asked = made.get();
         EveningFalls left = made.get();
-        Check.due(what, call.to(asked), FINDING);
+        due(what, call.to(asked), FINDING);
         alike(what, asked, left, finding);
     }
 
     private static void alike(String what, EveningFalls asked, EveningFalls left, int finding) {
-        Check.due(what + ": finding()", asked.finding(), finding == 0 ? left.finding() : finding);
+        due(what + ": finding()", asked.finding(), finding == 0 ? left.finding() : finding);
         for (int f = NOTHING; f <= SIZE; f++) {
-            Check.due(what + ": findings(" + f + ")", asked.findings(f), left.findings(f) + (f == finding ? 1 : 0));
+            due(what + ": findings(" + f + ")", asked.findings(f), left.findings(f) + (f == finding ? 1 : 0));
         }
         List<Long> seen = lookOver(asked);
         List<Long> want = lookOver(left);
