@@ -13,6 +13,7 @@ public final class CourtBoundsTest extends Bounds {
         promise10AnyByte();
         promise10Refused();
         promise11Courts();
+        promise11OneBehindTheOther();
         promise11Anew();
         promise11Refused();
         promise12Facts();
@@ -204,6 +205,31 @@ public final class CourtBoundsTest extends Bounds {
         due("11: PEOPLE", x.count(1), 3);
         due("11: AWAY on DAY 12", x.away(12), 5);
         due("11: REST 3", x.mark(2, 2), 2);
+    }
+
+    /** Nothing of a TEXT that was read before, by court() or by fault(), is left. */
+    private static void promise11OneBehindTheOther() {
+        String[] words = {"k6o20o30r10w21", "k0w00", "k2o71p91p91l91m91", "k3o20o31o75 w41r32m71g20p57l94r60"};
+        int[] ways = {2, 1, 4, 7};
+        int[] people = {2, 0, 1, 3};
+        int[] riots = {1, 0, 2, 3};
+        int[] mimed = {0, 0, 2, 2};
+        EveningFalls x = new EveningFalls();
+        for (int t = 0; t < 4; t++) Check.write(x, t, words[t]);
+        for (int first = 0; first < 4; first++) {
+            for (int second = 0; second < 4; second++) {
+                String what = "11: " + second + " behind " + first;
+                due(what, x.court(first), ways[first]);
+                due(what, x.fault(first), NONE);
+                due(what + ", WAYS stay", x.count(0), ways[first]);
+                due(what, x.court(second), ways[second]);
+                due(what + ", WAYS", x.count(0), ways[second]);
+                due(what + ", PEOPLE", x.count(1), people[second]);
+                due(what + ", RIOTS", x.count(6), riots[second]);
+                due(what + ", MIMED ones", x.count(7), mimed[second]);
+                due(what + ", the next WAY", x.way(ways[second], 0), BAD);
+            }
+        }
     }
 
     private static void promise11Anew() {

@@ -13,6 +13,7 @@ public final class PlanBoundsTest extends Bounds {
         promise24Days();
         promise24Refused();
         promise25Rules();
+        promise25TheFirstOfThese();
         promise25SixtyDays();
         promise25Refused();
         promise26Fewest();
@@ -199,6 +200,9 @@ public final class PlanBoundsTest extends Bounds {
         due("24: the last WAY", withRow(seven(0), 7, 6, 6).goes(0), 2);
         due("24: a LANDSLIDE on DAYS 0, 5, 10", withRow("k0l00w00", 2, 0, 1, 1, 1, 1, 0, 1, 1, 1, 1, 0, 1).goes(0), 12);
         due("24: a LANDSLIDE on DAY 11", withRow("k0l00w00", 2, 0, 1, 1, 1, 1, 0, 1, 1, 1, 1, 1, 0).goes(0), 11);
+        EveningFalls shorter = withRow("k1w00w00", 2, 0, 9, 9);
+        shorter.least(1, 0);
+        due("24: what stood behind its end is gone", shorter.goes(0), 1);
         EveningFalls x = withRow("k1w00w00", 2, 0, 1);
         x.fall(0);
         due("24: from now on", x.goes(0), 0);
@@ -266,6 +270,27 @@ public final class PlanBoundsTest extends Bounds {
         };
         refused("25: aside", made, z -> z.lasts(0), 3);
         due("25: also when FULL", full().lasts(0), 60);
+    }
+
+    /** Of two that are alike the second NEEDS nobody: it is left for the next DAY, when somebody is AWAY. */
+    private static void promise25TheFirstOfThese() {
+        for (int rule = 0; rule <= 2; rule++) {
+            due("25: the first of these, rule " + rule, Check.court("k6o21w11w10", 2).lasts(rule), 2);
+            due("25: not the first alone, rule " + rule, Check.court("k6o21w10w11", 2).lasts(rule), 1);
+        }
+        // 60 DAYS are eight times all seven, and four more: these tell in which order they come.
+        String seven = "k0w10w20w30w40w50w60w70";
+        EveningFalls x = Check.court(seven, 7);
+        due("25: none ever was", x.lasts(2), 60);
+        due("25: none ever was", x.asked(), 8 * 28 + 1 + 2 + 3 + 4);
+        for (int w = 0; w < 3; w++) x.fall(w);
+        due("25: those that never were ahead", x.lasts(2), 60);
+        due("25: those that never were ahead", x.asked(), 8 * 28 + 4 + 5 + 6 + 7);
+        x.undo(0);
+        for (int w = 6; w >= 0; w--) x.fall(w);
+        x.fall(6);
+        due("25: longest ago", x.lasts(2), 60);
+        due("25: longest ago", x.asked(), 8 * 28 + 6 + 5 + 4 + 3);
     }
 
     /** Three PEOPLE who are all AWAY first on a given DAY, one WAY for each: there is none on that DAY first. */
@@ -414,6 +439,14 @@ public final class PlanBoundsTest extends Bounds {
         due("27: what was done is no matter", x.asked(), 0);
         EveningFalls full = full();
         tells(full, "27: also when FULL", full.rounds(1), 2);
+        // What was looked for before, and in another COURT, leaves nothing.
+        EveningFalls y = Check.court("k0w90w90w90w00", 4);
+        due("22: the last one alone", y.least(5, 0), 0);
+        y.text(1, 5);
+        for (int i = 0; i < 5; i++) y.put(1, i, "k0w00".charAt(i));
+        due("11: one WAY", y.court(1), 1);
+        tells(y, "27: one WAY", y.rounds(5), 1);
+        due("27: one WAY", y.asked(), 0);
     }
 
     private static void promise27Refused() {

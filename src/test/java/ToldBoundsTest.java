@@ -1,6 +1,7 @@
 /** Boundary cases of promises 34 to 40: asked(), upper(), lower(), counts, FINDINGS, digest(). */
 public final class ToldBoundsTest extends Bounds {
     public static void main(String[] args) {
+        constants();
         promise34WhoTells();
         promise34WhoDoesNot();
         promise35And36WhoTells();
@@ -27,6 +28,15 @@ public final class ToldBoundsTest extends Bounds {
         due(what + ", upper()", x.upper(), upper);
         due(what + ", lower()", x.lower(), lower);
         due(what + ", upper() again", x.upper(), upper);
+    }
+
+    private static void constants() {
+        due("BAD", EveningFalls.BAD, -1);
+        due("FULL", EveningFalls.FULL, -2);
+        due("FINDING", EveningFalls.FINDING, -3);
+        due("STATE", EveningFalls.STATE, -4);
+        due("SPENT", EveningFalls.SPENT, -6);
+        due("NONE", EveningFalls.NONE, -9);
     }
 
     private static void promise34WhoTells() {
