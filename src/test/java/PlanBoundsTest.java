@@ -114,6 +114,10 @@ public final class PlanBoundsTest extends Bounds {
         EveningFalls z = Check.court("k0w90w80w00", 3);
         due("22: the last one", z.least(3, 1), 0);
         rowIs(z, "22: the last one", 1, 2, 2, 2);
+        // WAY 0 costs nothing, but only from the second DAY on: a dear start does not rule the cheaper one out.
+        EveningFalls v = Check.court("k0o20w01w90w80", 3);
+        due("22: a cheaper start behind a dearer one", v.least(2, 1), 8);
+        rowIs(v, "22: a cheaper start behind a dearer one", 1, 2, 0);
         EveningFalls w = Check.court("k6w00m10w00l10g00r00", 6);
         due("22: all of TROUBLE 0", w.least(6, 1), 0);
         rowIs(w, "22: all of TROUBLE 0", 1, 0, 1, 2, 4, 5, 1);
