@@ -13,6 +13,10 @@ public final class LanguageTest {
         "\\bhashCode\\b", "\\btoString\\b", "\\bprotected\\b", "\\bvar\\b", "\\bnative\\b", "\\bvolatile\\b", "static \\{",
     };
 
+    /** All calls live in one room: rows are made by constructors, and no call makes one. */
+    private static final Pattern MAKES = Pattern.compile("\\bnew\\b|copyOf|\\bclone\\b");
+    private static final Pattern MAKERS = Pattern.compile("Strip\\[\\] strips\\(|^ +Strip\\(");
+
     public static void main(String[] args) throws IOException {
         String source = Files.readString(Path.of("src/main/java/EveningFalls.java"));
         String code = source.replaceAll("(?s)/\\*.*?\\*/", "").replaceAll("//[^\n]*", "");
@@ -27,12 +31,12 @@ public final class LanguageTest {
         for (int i = 0; i < source.length(); i++) {
             if (source.charAt(i) > 126) Check.holds("sign " + i + " is plain", false);
         }
-        lookAtLengths(code);
+        lookAtMethods(code);
         Check.end();
     }
 
     /** A method starts at a line that ends in ") {" and is indented as a member. */
-    private static void lookAtLengths(String code) {
+    private static void lookAtMethods(String code) {
         String[] lines = code.split("\n");
         int start = -1;
         String end = "";
@@ -45,6 +49,8 @@ public final class LanguageTest {
             } else if (start >= 0 && lines[i].equals(end)) {
                 Check.holds("line " + (start + 1) + ": a short method", i - start <= 60);
                 start = -1;
+            } else if (start >= 0 && MAKES.matcher(lines[i]).find()) {
+                Check.holds("line " + (i + 1) + ": made by a constructor", MAKERS.matcher(lines[start]).find());
             }
         }
     }

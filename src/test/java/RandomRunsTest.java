@@ -1,9 +1,17 @@
 import java.util.Random;
 
-/** Long runs of random calls: the class and the slow model answer alike after every call. */
+/**
+ * Runs of random calls: the class and the slow model answer alike. Each object gets the 512 calls for which the
+ * document promises something, the looks at what is told among them, and no more.
+ */
 public final class RandomRunsTest {
-    private static final int RUNS = 600;
-    private static final int CALLS = 400;
+    private static final int RUNS = 3000;
+    private static final int MOST_CALLS = 512;
+    private static final int LOOKS = 12;
+    /** A new COURT of 60 bytes, looked at behind text(), fault() and court(). */
+    private static final int DEAREST = 63 + 3 * LOOKS;
+    /** In some runs every call is looked at, in others few are, so that more calls come behind each other. */
+    private static final int[] WATCHES = {1, 4, 20};
 
     public static void main(String[] args) {
         for (int run = 0; run < RUNS && !Check.anyWrong(); run++) new RandomRunsTest(run).go();
@@ -12,24 +20,37 @@ public final class RandomRunsTest {
 
     private final int run;
     private final Random random;
+    private final int watch;
     private final EveningFalls x = new EveningFalls();
     private final UsherModel m = new UsherModel();
+    private int spent = 0;
 
     private RandomRunsTest(int run) {
         this.run = run;
         this.random = new Random(run * 7919L + 1);
+        this.watch = WATCHES[run % WATCHES.length];
     }
 
     private void go() {
         if (random.nextInt(10) != 0) newCourt();
-        for (int i = 0; i < CALLS && !Check.anyWrong(); i++) {
+        while (spent + DEAREST + LOOKS <= MOST_CALLS && !Check.anyWrong()) {
             if (random.nextInt(120) == 0) newCourt();
             else call();
         }
+        while (spent + LOOKS < MOST_CALLS && !Check.anyWrong()) deedCall();
+        look("the last call");
+        if (!Check.anyWrong()) Check.due("run " + run + ": calls", spent, MOST_CALLS);
     }
 
     private void due(String call, long got, long want) {
+        spent++;
         Check.due("run " + run + ": " + call, got, want);
+        boolean mayLook = spent + 2 * LOOKS <= MOST_CALLS;
+        if (mayLook && random.nextInt(watch) == 0) look(call);
+    }
+
+    private void look(String call) {
+        spent += LOOKS;
         Check.due("run " + run + ": digest() behind " + call, x.digest(), m.digest());
         Check.due("run " + run + ": asked() behind " + call, x.asked(), m.asked());
         Check.due("run " + run + ": upper() behind " + call, x.upper(), m.upper());
@@ -73,6 +94,7 @@ public final class RandomRunsTest {
         due("text", x.text(t, words.length()), m.text(t, words.length()));
         for (int i = 0; i < words.length(); i++) x.put(t, i, words.charAt(i) + 256 * random.nextInt(3));
         for (int i = 0; i < words.length(); i++) m.put(t, i, words.charAt(i));
+        spent += words.length();
         due("fault of '" + words + "'", x.fault(t), m.fault(t));
         due("court of '" + words + "'", x.court(t), m.court(t));
     }
@@ -176,6 +198,7 @@ public final class RandomRunsTest {
             int w = random.nextInt(Math.max(1, m.count(0)));
             x.lay(r, i, w);
             m.lay(r, i, w);
+            spent++;
         }
         due("goes(" + r + ")", x.goes(r), m.goes(r));
         int any = near(0, 5);
